@@ -1,4 +1,5 @@
 import java.io.ByteArrayOutputStream;
+import java.util.Arrays;
 import java.util.HashMap;
 import java.util.Map;
 import java.util.zip.Adler32;
@@ -127,9 +128,12 @@ final class Streams {
         packer.setInput(bytes);
         packer.finish();
         byte[] room = new byte[bytes.length * 2 + 100];
-        int many = packer.deflate(room);
+        int many = 0;
+        while (!packer.finished()) {
+            many += packer.deflate(room, many, room.length - many);
+        }
         packer.end();
-        return java.util.Arrays.copyOf(room, many);
+        return Arrays.copyOf(room, many);
     }
 
     /** FLATE around blocks that were written by hand. */
