@@ -317,7 +317,7 @@ public final class StreamFilters {
             return sign == 0 || sign == 9 || sign == 10 || sign == 12 || sign == 13 || sign == 32;
         }
 
-        int lowBit() {
+        int nextBit(boolean lowestFirst) {
             if (bitsLeft == 0) {
                 if (nextByte() == NONE) {
                     return NONE;
@@ -325,24 +325,13 @@ public final class StreamFilters {
                 bitsLeft = 8;
             }
             bitsLeft--;
-            return (current >> (7 - bitsLeft)) & 1;
-        }
-
-        int highBit() {
-            if (bitsLeft == 0) {
-                if (nextByte() == NONE) {
-                    return NONE;
-                }
-                bitsLeft = 8;
-            }
-            bitsLeft--;
-            return (current >> bitsLeft) & 1;
+            return (current >> (lowestFirst ? 7 - bitsLeft : bitsLeft)) & 1;
         }
 
         int lowNumber(int bits) {
             int number = 0;
             for (int i = 0; i < bits; i++) {
-                int bit = lowBit();
+                int bit = nextBit(true);
                 if (bit == NONE) {
                     return NONE;
                 }
@@ -354,7 +343,7 @@ public final class StreamFilters {
         int highNumber(int bits) {
             int number = 0;
             for (int i = 0; i < bits; i++) {
-                int bit = highBit();
+                int bit = nextBit(false);
                 if (bit == NONE) {
                     return NONE;
                 }
@@ -476,7 +465,7 @@ public final class StreamFilters {
             int first = 0;
             int place = 0;
             for (int length = 1; length <= longest && length < counts.length; length++) {
-                int bit = pass.lowBit();
+                int bit = pass.nextBit(true);
                 if (bit == NONE) {
                     return NONE;
                 }
@@ -533,7 +522,6 @@ public final class StreamFilters {
             fixedDistances.build(lengths, LITERALS, DISTANCES);
         }
 
-        @Override
         void unpack(Pass pass, int early) {
             boolean good = readHeader(pass);
             boolean last = false;
@@ -745,7 +733,6 @@ public final class StreamFilters {
         /** 0 when there is no code before. */
         private int sizeBefore = 0;
 
-        @Override
         void unpack(Pass pass, int early) {
             clear();
             for (int turn = 0; turn < TURN_LIMIT; turn++) {
@@ -822,7 +809,6 @@ public final class StreamFilters {
         private long number = 0;
         private int digits = 0;
 
-        @Override
         void unpack(Pass pass, int early) {
             number = 0;
             digits = 0;
@@ -887,7 +873,6 @@ public final class StreamFilters {
     private static final class Hexadecimal extends Unpacker {
         private static final int END = 62;
 
-        @Override
         void unpack(Pass pass, int early) {
             int high = NONE;
             boolean good = true;
@@ -923,7 +908,6 @@ public final class StreamFilters {
     private static final class Lengths extends Unpacker {
         private static final int END = 128;
 
-        @Override
         void unpack(Pass pass, int early) {
             boolean good = true;
             for (int turn = 0; turn < TURN_LIMIT && good; turn++) {
