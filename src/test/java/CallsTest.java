@@ -184,7 +184,12 @@ final class CallsTest {
         Rows.decodesTo("budget: just enough", x, Rows.ofText("ABCD"));
         Rows.hasNoFault("budget: just enough", x);
         Rows.decodesTo("budget: decode() does not use it up", x, Rows.ofText("ABCD"));
-        Check.same("budget(3)", x.budget(3), 4);
+        Check.same("budget(5)", x.budget(5), 4);
+        for (int i = 0; i < 3; i++) {
+            Rows.decodesTo("budget: each decode() has all of it", x, Rows.ofText("ABCD"));
+            Rows.hasNoFault("budget: each decode() has all of it", x);
+        }
+        Check.same("budget(3)", x.budget(3), 5);
         Rows.decodesTo("budget: one too few", x, Rows.ofText("ABC"));
         Rows.hasFault("budget: one too few", x, 0, StreamFilters.OVER, 8);
         Check.same("budget(0)", x.budget(0), 3);
