@@ -10,6 +10,10 @@ final class Check {
         long answer();
     }
 
+    interface Answer {
+        long of(StreamFilters x);
+    }
+
     static void same(String what, long got, long due) {
         looked++;
         if (got != due) {

@@ -4,8 +4,6 @@ import java.util.zip.Deflater;
 
 /** Promise 9, FLATE: its blocks, its codes, its faults and their places. */
 final class FlateTest {
-    private static final int[] ORDER = {16, 17, 18, 0, 8, 7, 9, 6, 10, 5, 11, 4, 12, 3, 13, 2, 14, 1, 15};
-
     private FlateTest() {
     }
 
@@ -30,10 +28,6 @@ final class FlateTest {
 
     private static StreamFilters flate(byte[] row) {
         return Rows.loaded(row, 0);
-    }
-
-    private static byte[] withHeader(Streams.Bits bits) {
-        return Rows.joined(Rows.of(0x78, 0x9C), bits.bytes());
     }
 
     /** The stream gives these bytes and then has this fault at this place. */
@@ -166,14 +160,14 @@ final class FlateTest {
     }
 
     private static void blocks() {
-        faulty("type 3", withHeader(new Streams.Bits().lowNumber(6, 3)), Rows.of(), StreamFilters.BLOCK, 3);
-        faulty("type 3, the last", withHeader(new Streams.Bits().lowNumber(7, 3)), Rows.of(), StreamFilters.BLOCK, 3);
+        faulty("type 3", Blocks.withHeader(new Streams.Bits().lowNumber(6, 3)), Rows.of(), StreamFilters.BLOCK, 3);
+        faulty("type 3, the last", Blocks.withHeader(new Streams.Bits().lowNumber(7, 3)), Rows.of(), StreamFilters.BLOCK, 3);
         // 3 + 8 + 8 + 7 bits, then three more that reach into the next byte only after 32
         Streams.Bits bits = new Streams.Bits().lowNumber(2, 3).fixed(65).fixed(66).fixed(256).lowNumber(7, 3);
-        faulty("type 3, second block", withHeader(bits), Rows.ofText("AB"), StreamFilters.BLOCK, 6);
+        faulty("type 3, second block", Blocks.withHeader(bits), Rows.ofText("AB"), StreamFilters.BLOCK, 6);
         bits = new Streams.Bits().lowNumber(2, 3).fixed(150).fixed(65).fixed(66).fixed(256).lowNumber(2, 3)
                 .fixed(67).fixed(256).lowNumber(6, 3);
-        faulty("type 3, third block, in two bytes", withHeader(bits), Rows.of(150, 65, 66, 67), StreamFilters.BLOCK,
+        faulty("type 3, third block, in two bytes", Blocks.withHeader(bits), Rows.of(150, 65, 66, 67), StreamFilters.BLOCK,
                 2 + (bits.length() + 7) / 8);
         bits = new Streams.Bits().lowNumber(2, 3).fixed(65).fixed(256).lowNumber(0, 3).wholeByte()
                 .lowNumber(2, 16).lowNumber(65533, 16).lowNumber(66, 8).lowNumber(67, 8)
@@ -194,24 +188,24 @@ final class FlateTest {
         good("stored: one byte", Streams.flateAround(bits, Rows.of(77)), Rows.of(77));
         for (int wrong = 0; wrong < 16; wrong++) {
             bits = new Streams.Bits().lowNumber(1, 8).lowNumber(5, 16).lowNumber(65530 ^ 1 << wrong, 16).lowNumber(0, 64);
-            faulty("stored: bit " + wrong, withHeader(bits), Rows.of(), StreamFilters.STORED, 7);
+            faulty("stored: bit " + wrong, Blocks.withHeader(bits), Rows.of(), StreamFilters.STORED, 7);
         }
         for (int many = 0; many < 3; many++) {
             bits = new Streams.Bits().lowNumber(1, 8).lowNumber(0, 8 * many);
-            faulty("stored: it ends", withHeader(bits), Rows.of(), StreamFilters.ENDS, 3 + many);
+            faulty("stored: it ends", Blocks.withHeader(bits), Rows.of(), StreamFilters.ENDS, 3 + many);
         }
         bits = new Streams.Bits().lowNumber(1, 8).lowNumber(3, 16).lowNumber(65532, 16).lowNumber(7, 8).lowNumber(8, 8);
-        faulty("stored: its bytes end", withHeader(bits), Rows.of(7, 8), StreamFilters.ENDS, 9);
+        faulty("stored: its bytes end", Blocks.withHeader(bits), Rows.of(7, 8), StreamFilters.ENDS, 9);
     }
 
     private static void fixedSymbols() {
         for (int symbol = 286; symbol < 288; symbol++) {
             Streams.Bits bits = new Streams.Bits().lowNumber(3, 3).fixed(65).fixed(symbol);
-            faulty("literal " + symbol, Rows.joined(withHeader(bits), new byte[9]), Rows.of(65), StreamFilters.SYMBOL, 5);
+            faulty("literal " + symbol, Rows.joined(Blocks.withHeader(bits), new byte[9]), Rows.of(65), StreamFilters.SYMBOL, 5);
         }
         for (int symbol = 30; symbol < 32; symbol++) {
             Streams.Bits bits = new Streams.Bits().lowNumber(3, 3).fixed(65).fixed(257).fixedDistance(symbol);
-            faulty("distance " + symbol, Rows.joined(withHeader(bits), new byte[9]), Rows.of(65), StreamFilters.SYMBOL, 5);
+            faulty("distance " + symbol, Rows.joined(Blocks.withHeader(bits), new byte[9]), Rows.of(65), StreamFilters.SYMBOL, 5);
         }
         byte[] all = new byte[256];
         Streams.Bits bits = new Streams.Bits().lowNumber(3, 3);
@@ -224,12 +218,12 @@ final class FlateTest {
 
     private static void far() {
         Streams.Bits bits = new Streams.Bits().lowNumber(3, 3).fixed(257).fixedDistance(0);
-        faulty("far: nothing is there", withHeader(bits), Rows.of(), StreamFilters.FAR, 4);
+        faulty("far: nothing is there", Blocks.withHeader(bits), Rows.of(), StreamFilters.FAR, 4);
         bits = new Streams.Bits().lowNumber(3, 3).fixed(65).fixed(66).fixed(257).fixedDistance(2);
-        faulty("far: by one", withHeader(bits), Rows.of(65, 66), StreamFilters.FAR, 2 + 4);
+        faulty("far: by one", Blocks.withHeader(bits), Rows.of(65, 66), StreamFilters.FAR, 2 + 4);
         // the further bits are read before, 31 + 3 of them
         bits = new Streams.Bits().lowNumber(3, 3).fixed(65).fixed(66).fixed(257).fixedDistance(8).lowNumber(0, 3);
-        faulty("far: further bits", withHeader(bits), Rows.of(65, 66), StreamFilters.FAR, 2 + 5);
+        faulty("far: further bits", Blocks.withHeader(bits), Rows.of(65, 66), StreamFilters.FAR, 2 + 5);
     }
 
     private static void check() {
@@ -244,31 +238,14 @@ final class FlateTest {
         good("check: both sums go round", Streams.flateOf(high, 9, 0), high);
     }
 
-    /** A block of type 2 with its three numbers. */
-    private static Streams.Bits codesHead(int literals, int distances, int order) {
-        return new Streams.Bits().lowNumber(5, 3).lowNumber(literals - 257, 5).lowNumber(distances - 1, 5).lowNumber(order - 4, 4);
-    }
-
     private static void headOfCodes() {
-        faulty("286 literals and 30 distances", withHeader(codesHead(286, 30, 4)), Rows.of(), StreamFilters.ENDS, 5);
-        faulty("287 literals", Rows.joined(withHeader(codesHead(287, 1, 4)), new byte[5]), Rows.of(), StreamFilters.CODES, 5);
-        faulty("288 literals", Rows.joined(withHeader(codesHead(288, 1, 4)), new byte[5]), Rows.of(), StreamFilters.CODES, 5);
-        faulty("31 distances", Rows.joined(withHeader(codesHead(257, 31, 4)), new byte[5]), Rows.of(), StreamFilters.CODES, 5);
-        faulty("32 distances", Rows.joined(withHeader(codesHead(257, 32, 4)), new byte[5]), Rows.of(), StreamFilters.CODES, 5);
-        byte[] cut = Arrays.copyOf(withHeader(codesHead(288, 32, 4)), 4);
+        faulty("286 literals and 30 distances", Blocks.withHeader(Blocks.codesHead(286, 30, 4)), Rows.of(), StreamFilters.ENDS, 5);
+        faulty("287 literals", Rows.joined(Blocks.withHeader(Blocks.codesHead(287, 1, 4)), new byte[5]), Rows.of(), StreamFilters.CODES, 5);
+        faulty("288 literals", Rows.joined(Blocks.withHeader(Blocks.codesHead(288, 1, 4)), new byte[5]), Rows.of(), StreamFilters.CODES, 5);
+        faulty("31 distances", Rows.joined(Blocks.withHeader(Blocks.codesHead(257, 31, 4)), new byte[5]), Rows.of(), StreamFilters.CODES, 5);
+        faulty("32 distances", Rows.joined(Blocks.withHeader(Blocks.codesHead(257, 32, 4)), new byte[5]), Rows.of(), StreamFilters.CODES, 5);
+        byte[] cut = Arrays.copyOf(Blocks.withHeader(Blocks.codesHead(288, 32, 4)), 4);
         faulty("288 literals, and it ends", cut, Rows.of(), StreamFilters.ENDS, 4);
-    }
-
-    /** The three bits of each code of lengths; pairs of symbol and length. */
-    private static Streams.Bits orderLengths(Streams.Bits bits, int order, int... pairs) {
-        int[] lengths = new int[19];
-        for (int i = 0; i < pairs.length; i += 2) {
-            lengths[pairs[i]] = pairs[i + 1];
-        }
-        for (int i = 0; i < order; i++) {
-            bits.lowNumber(lengths[ORDER[i]], 3);
-        }
-        return bits;
     }
 
     private static void lengthCodes() {
@@ -279,104 +256,77 @@ final class FlateTest {
         badLengthCodes("three codes of lengths, too many", 0, 1, 1, 1, 2, 1);
         badLengthCodes("complete, and one more", 0, 1, 1, 2, 2, 2, 18, 7);
         // one of length 1: with the other bit there is no such code
-        Streams.Bits bits = orderLengths(codesHead(257, 1, 19), 19, 18, 1).code("1");
-        faulty("one code of lengths, the other bit", withHeader(bits), Rows.of(), StreamFilters.SYMBOL, 12);
+        Streams.Bits bits = Blocks.orderLengths(Blocks.codesHead(257, 1, 19), 19, 18, 1).code("1");
+        faulty("one code of lengths, the other bit", Blocks.withHeader(bits), Rows.of(), StreamFilters.SYMBOL, 12);
         // 138 and 120 times 0 are 258 lengths: then 256 has none
-        bits = orderLengths(codesHead(257, 1, 19), 19, 18, 1).code("0").lowNumber(127, 7).code("0").lowNumber(109, 7);
-        faulty("one code of lengths: no literals", withHeader(bits), Rows.of(), StreamFilters.CODES,
+        bits = Blocks.orderLengths(Blocks.codesHead(257, 1, 19), 19, 18, 1).code("0").lowNumber(127, 7).code("0").lowNumber(109, 7);
+        faulty("one code of lengths: no literals", Blocks.withHeader(bits), Rows.of(), StreamFilters.CODES,
                 2 + (bits.length() + 7) / 8);
-        bits = orderLengths(codesHead(257, 1, 5), 4, 18, 1);
-        faulty("codes of lengths end", withHeader(bits), Rows.of(), StreamFilters.ENDS, 2 + 4);
+        bits = Blocks.orderLengths(Blocks.codesHead(257, 1, 5), 4, 18, 1);
+        faulty("codes of lengths end", Blocks.withHeader(bits), Rows.of(), StreamFilters.ENDS, 2 + 4);
     }
 
     private static void badLengthCodes(String what, int... pairs) {
-        Streams.Bits bits = orderLengths(codesHead(257, 1, 19), 19, pairs);
-        faulty(what, Rows.joined(withHeader(bits), new byte[8]), Rows.of(), StreamFilters.CODES, 2 + 10);
-    }
-
-    /** Codes of lengths: 0 for 0, 10 for 1, 110 for 16, 1110 for 17, 1111 for 18. */
-    private static Streams.Bits withRepeats(int literals, int distances) {
-        return orderLengths(codesHead(literals, distances, 19), 19, 0, 1, 1, 2, 16, 3, 17, 4, 18, 4);
-    }
-
-    private static int placeOf(Streams.Bits bits) {
-        return 2 + (bits.length() + 7) / 8;
+        Streams.Bits bits = Blocks.orderLengths(Blocks.codesHead(257, 1, 19), 19, pairs);
+        faulty(what, Rows.joined(Blocks.withHeader(bits), new byte[8]), Rows.of(), StreamFilters.CODES, 2 + 10);
     }
 
     private static void repeats() {
-        Streams.Bits bits = withRepeats(257, 1).code("110").lowNumber(0, 2);
-        faulty("16, and none before", Rows.joined(withHeader(bits), new byte[5]), Rows.of(), StreamFilters.CODES, placeOf(bits));
+        Streams.Bits bits = Blocks.withRepeats(257, 1).code("110").lowNumber(0, 2);
+        faulty("16, and none before", Rows.joined(Blocks.withHeader(bits), new byte[5]), Rows.of(), StreamFilters.CODES, Blocks.placeOf(bits));
         // 138 + 110 + 8 are 256, then 1 for 256, and 1 for the distance
-        bits = withRepeats(257, 1).code("1111").lowNumber(127, 7).code("1111").lowNumber(99, 7)
+        bits = Blocks.withRepeats(257, 1).code("1111").lowNumber(127, 7).code("1111").lowNumber(99, 7)
                 .code("1110").lowNumber(5, 3).code("10").code("10").code("0");
         good("17 and 18", Streams.flateAround(bits, Rows.of()), Rows.of());
         // one too many: 256 times 0, one 1, and then 16 for the one that is left
-        bits = withRepeats(257, 1).code("1111").lowNumber(127, 7).code("1111").lowNumber(107, 7)
+        bits = Blocks.withRepeats(257, 1).code("1111").lowNumber(127, 7).code("1111").lowNumber(107, 7)
                 .code("10").code("110").lowNumber(0, 2);
-        faulty("16, more than there are", Rows.joined(withHeader(bits), new byte[5]), Rows.of(), StreamFilters.CODES, placeOf(bits));
-        bits = withRepeats(257, 2).code("1111").lowNumber(127, 7).code("1111").lowNumber(107, 7)
+        faulty("16, more than there are", Rows.joined(Blocks.withHeader(bits), new byte[5]), Rows.of(), StreamFilters.CODES, Blocks.placeOf(bits));
+        bits = Blocks.withRepeats(257, 2).code("1111").lowNumber(127, 7).code("1111").lowNumber(107, 7)
                 .code("10").code("1110").lowNumber(0, 3);
-        faulty("17, more than there are", Rows.joined(withHeader(bits), new byte[5]), Rows.of(), StreamFilters.CODES, placeOf(bits));
-        bits = withRepeats(257, 10).code("1111").lowNumber(127, 7).code("1111").lowNumber(107, 7)
+        faulty("17, more than there are", Rows.joined(Blocks.withHeader(bits), new byte[5]), Rows.of(), StreamFilters.CODES, Blocks.placeOf(bits));
+        bits = Blocks.withRepeats(257, 10).code("1111").lowNumber(127, 7).code("1111").lowNumber(107, 7)
                 .code("10").code("1111").lowNumber(0, 7);
-        faulty("18, more than there are", Rows.joined(withHeader(bits), new byte[5]), Rows.of(), StreamFilters.CODES, placeOf(bits));
-        bits = withRepeats(257, 2).code("1111").lowNumber(127, 7).code("1111").lowNumber(107, 7)
+        faulty("18, more than there are", Rows.joined(Blocks.withHeader(bits), new byte[5]), Rows.of(), StreamFilters.CODES, Blocks.placeOf(bits));
+        bits = Blocks.withRepeats(257, 2).code("1111").lowNumber(127, 7).code("1111").lowNumber(107, 7)
                 .code("10").code("10").code("10").code("0");
         good("two distances of length 1", Streams.flateAround(bits, Rows.of()), Rows.of());
-        bits = withRepeats(257, 3).code("1111").lowNumber(127, 7).code("1111").lowNumber(107, 7)
+        bits = Blocks.withRepeats(257, 3).code("1111").lowNumber(127, 7).code("1111").lowNumber(107, 7)
                 .code("10").code("110").lowNumber(0, 2);
-        faulty("16 from literals to distances: three of length 1", Rows.joined(withHeader(bits), new byte[5]), Rows.of(),
-                StreamFilters.CODES, placeOf(bits));
-    }
-
-    /** A block of type 2 whose codes of lengths are 0 .. 15, each with four bits. */
-    private static Streams.Bits withLengths(int literals, int distances, int... pairs) {
-        int[] lengths = new int[literals + distances];
-        for (int i = 0; i < pairs.length; i += 2) {
-            lengths[pairs[i]] = pairs[i + 1];
-        }
-        int[] fours = new int[32];
-        for (int i = 0; i < 16; i++) {
-            fours[2 * i] = i;
-            fours[2 * i + 1] = 4;
-        }
-        Streams.Bits bits = orderLengths(codesHead(literals, distances, 19), 19, fours);
-        for (int length : lengths) {
-            bits.code(String.format("%4s", Integer.toBinaryString(length)).replace(' ', '0'));
-        }
-        return bits;
+        faulty("16 from literals to distances: three of length 1", Rows.joined(Blocks.withHeader(bits), new byte[5]), Rows.of(),
+                StreamFilters.CODES, Blocks.placeOf(bits));
     }
 
     private static void badCodes(String what, Streams.Bits bits) {
-        faulty(what, Rows.joined(withHeader(bits), new byte[4]), Rows.of(), StreamFilters.CODES, placeOf(bits));
+        faulty(what, Rows.joined(Blocks.withHeader(bits), new byte[4]), Rows.of(), StreamFilters.CODES, Blocks.placeOf(bits));
     }
 
     private static void codes() {
-        badCodes("literals: 256 has none", withLengths(257, 1, 65, 1, 66, 1));
-        badCodes("literals: one, of length 2", withLengths(257, 1, 256, 2));
-        badCodes("literals: not complete", withLengths(257, 1, 65, 2, 66, 2, 256, 2));
-        badCodes("literals: too many", withLengths(257, 1, 65, 1, 66, 1, 256, 1));
-        badCodes("distances: one, of length 2", withLengths(257, 1, 65, 1, 256, 1, 257, 2));
-        badCodes("distances: not complete", withLengths(257, 3, 65, 1, 256, 1, 257, 2, 258, 2, 259, 2));
-        badCodes("distances: too many", withLengths(257, 3, 65, 1, 256, 1, 257, 1, 258, 1, 259, 1));
+        badCodes("literals: 256 has none", Blocks.withLengths(257, 1, 65, 1, 66, 1));
+        badCodes("literals: one, of length 2", Blocks.withLengths(257, 1, 256, 2));
+        badCodes("literals: not complete", Blocks.withLengths(257, 1, 65, 2, 66, 2, 256, 2));
+        badCodes("literals: too many", Blocks.withLengths(257, 1, 65, 1, 66, 1, 256, 1));
+        badCodes("distances: one, of length 2", Blocks.withLengths(257, 1, 65, 1, 256, 1, 257, 2));
+        badCodes("distances: not complete", Blocks.withLengths(257, 3, 65, 1, 256, 1, 257, 2, 258, 2, 259, 2));
+        badCodes("distances: too many", Blocks.withLengths(257, 3, 65, 1, 256, 1, 257, 1, 258, 1, 259, 1));
 
-        good("literals: one, of length 1", Streams.flateAround(withLengths(257, 1, 256, 1).code("0"), Rows.of()), Rows.of());
-        Streams.Bits bits = withLengths(257, 1, 256, 1).code("1");
-        faulty("literals: one, the other bit", withHeader(bits), Rows.of(), StreamFilters.SYMBOL, placeOf(bits));
+        good("literals: one, of length 1", Streams.flateAround(Blocks.withLengths(257, 1, 256, 1).code("0"), Rows.of()), Rows.of());
+        Streams.Bits bits = Blocks.withLengths(257, 1, 256, 1).code("1");
+        faulty("literals: one, the other bit", Blocks.withHeader(bits), Rows.of(), StreamFilters.SYMBOL, Blocks.placeOf(bits));
 
         // 65: 0, 256: 10, 257: 11; distances: one, of length 1
-        bits = withLengths(258, 1, 65, 1, 256, 2, 257, 2, 258, 1).code("0").code("11").code("0").code("10");
+        bits = Blocks.withLengths(258, 1, 65, 1, 256, 2, 257, 2, 258, 1).code("0").code("11").code("0").code("10");
         good("distances: one, of length 1", Streams.flateAround(bits, Rows.ofText("AAAA")), Rows.ofText("AAAA"));
-        bits = withLengths(258, 1, 65, 1, 256, 2, 257, 2, 258, 1).code("0").code("11").code("1");
-        faulty("distances: one, the other bit", Rows.joined(withHeader(bits), new byte[2]), Rows.ofText("A"),
-                StreamFilters.SYMBOL, placeOf(bits));
+        bits = Blocks.withLengths(258, 1, 65, 1, 256, 2, 257, 2, 258, 1).code("0").code("11").code("1");
+        faulty("distances: one, the other bit", Rows.joined(Blocks.withHeader(bits), new byte[2]), Rows.ofText("A"),
+                StreamFilters.SYMBOL, Blocks.placeOf(bits));
 
-        bits = withLengths(258, 1, 65, 1, 256, 2, 257, 2).code("0").code("10");
+        bits = Blocks.withLengths(258, 1, 65, 1, 256, 2, 257, 2).code("0").code("10");
         good("distances: none, and none is needed", Streams.flateAround(bits, Rows.ofText("A")), Rows.ofText("A"));
         for (int many = 0; many < 8; many++) {
-            bits = withLengths(258, 1, 65, 1, 256, 2, 257, 2).code("0".repeat(many)).code("11");
-            faulty("distances: none, and one is needed", withHeader(bits), Rows.ofText("A".repeat(many)),
-                    StreamFilters.SYMBOL, placeOf(bits));
+            bits = Blocks.withLengths(258, 1, 65, 1, 256, 2, 257, 2).code("0".repeat(many)).code("11");
+            faulty("distances: none, and one is needed", Blocks.withHeader(bits), Rows.ofText("A".repeat(many)),
+                    StreamFilters.SYMBOL, Blocks.placeOf(bits));
         }
 
         // all lengths from 1 to 15: n has n - 1 ones and a 0, but the last one
@@ -387,7 +337,7 @@ final class FlateTest {
         }
         pairs[30] = 256;
         pairs[31] = 15;
-        bits = withLengths(257, 1, pairs);
+        bits = Blocks.withLengths(257, 1, pairs);
         byte[] due = new byte[15];
         for (int i = 0; i < 15; i++) {
             due[i] = (byte) i;
