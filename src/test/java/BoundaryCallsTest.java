@@ -201,7 +201,8 @@ final class BoundaryCallsTest {
         Check.same("put: the first", x.put(0, 101), 1);
         Check.same("put: the last", x.put(19, 120), 20);
         Check.same("put: one between", x.put(9, 110), 10);
-        Rows.decodesTo("put: no other", x, Rows.of(101, 2, 3, 4, 5, 6, 7, 8, 9, 110, 11, 12, 13, 14, 15, 16, 17, 18, 19, 120));
+        Rows.decodesTo("put: no other", x, Rows.of(101, 2, 3, 4, 5, 6, 7, 8, 9, 110, 11, 12, 13, 14, 15, 16, 17, 18, 19,
+                120));
         StreamFilters y = Filtered.longRow(sevens(16384));
         Check.same("put: the last of a full row", y.put(16383, 0), 9);
         Check.same("put: the last but one", y.put(16382, 0), 7);
@@ -221,7 +222,8 @@ final class BoundaryCallsTest {
     /** "IndexOutOfBounds: there is none such." */
     private static void putOutside() {
         for (int i : new int[] {LOWEST, -1, 17, 18, 20, 16384, HIGHEST}) {
-            Refused.throwing("put(" + i + ", 1)", IndexOutOfBoundsException.class, BoundaryCallsTest::busy, x -> x.put(i, 1));
+            Refused.throwing("put(" + i + ", 1)", IndexOutOfBoundsException.class, BoundaryCallsTest::busy,
+                    x -> x.put(i, 1));
         }
         Refused.throwing("put: an empty row", IndexOutOfBoundsException.class, StreamFilters::new, x -> x.put(0, 1));
         Refused.throwing("put: behind a cut", IndexOutOfBoundsException.class, () -> {
@@ -243,15 +245,18 @@ final class BoundaryCallsTest {
     private static void putNoByte() {
         for (int b : new int[] {LOWEST, -256, -1, 256, 511, HIGHEST}) {
             Refused.throwing("put(0, " + b + ")", IllegalArgumentException.class, BoundaryCallsTest::busy, x -> x.put(0, b));
-            Refused.throwing("put(16, " + b + ")", IllegalArgumentException.class, BoundaryCallsTest::busy, x -> x.put(16, b));
+            Refused.throwing("put(16, " + b + ")", IllegalArgumentException.class, BoundaryCallsTest::busy,
+                    x -> x.put(16, b));
         }
     }
 
     /** "where it lists more than one exception, the first one wins": IndexOutOfBounds. */
     private static void putBothWrong() {
         for (int b : new int[] {-1, 256}) {
-            Refused.throwing("put(17, " + b + ")", IndexOutOfBoundsException.class, BoundaryCallsTest::busy, x -> x.put(17, b));
-            Refused.throwing("put(-1, " + b + ")", IndexOutOfBoundsException.class, BoundaryCallsTest::busy, x -> x.put(-1, b));
+            Refused.throwing("put(17, " + b + ")", IndexOutOfBoundsException.class, BoundaryCallsTest::busy,
+                    x -> x.put(17, b));
+            Refused.throwing("put(-1, " + b + ")", IndexOutOfBoundsException.class, BoundaryCallsTest::busy,
+                    x -> x.put(-1, b));
             Refused.throwing("put(0, " + b + "), an empty row", IndexOutOfBoundsException.class, StreamFilters::new,
                     x -> x.put(0, b));
         }
@@ -439,7 +444,8 @@ final class BoundaryCallsTest {
                 StreamFilters x = Rows.loaded(Rows.ofText("000000>"), 3);
                 for (int colours : new int[] {1, 8}) {
                     for (int columns : new int[] {1, 4096}) {
-                        Check.same(told(predictor, colours, bits, columns), predicted(x, predictor, colours, bits, columns), 0);
+                        Check.same(told(predictor, colours, bits, columns),
+                                predicted(x, predictor, colours, bits, columns), 0);
                         x.decode();
                         Rows.hasNoFault(told(predictor, colours, bits, columns), x);
                     }
@@ -490,7 +496,8 @@ final class BoundaryCallsTest {
 
     /** The first one wins: IllegalArgument, also when there is no filter. */
     private static void predictBothWrong() {
-        int[][] wrong = {{0, 1, 8, 1}, {16, 1, 8, 1}, {1, 0, 8, 1}, {2, 9, 8, 1}, {1, 1, 3, 1}, {10, 1, 8, 0}, {15, 1, 8, 4097}};
+        int[][] wrong = {{0, 1, 8, 1}, {16, 1, 8, 1}, {1, 0, 8, 1}, {2, 9, 8, 1}, {1, 1, 3, 1}, {10, 1, 8, 0},
+                {15, 1, 8, 4097}};
         for (int[] four : wrong) {
             Refused.throwing("no filter, " + told(four[0], four[1], four[2], four[3]), IllegalArgumentException.class,
                     StreamFilters::new, x -> x.predict(four[0], four[1], four[2], four[3]));

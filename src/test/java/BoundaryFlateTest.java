@@ -1,6 +1,9 @@
 import java.util.Arrays;
 
-/** The boundary cases that the sentences about FLATE name; each has a method of its own, and the sentence stands above it. */
+/**
+ * The boundary cases that the sentences about FLATE name; each has a method of its own, and the sentence
+ * stands above it.
+ */
 final class BoundaryFlateTest {
     private static final int ENDS = StreamFilters.ENDS;
     private static final int CODES = StreamFilters.CODES;
@@ -238,19 +241,21 @@ final class BoundaryFlateTest {
     private static void storedBehindAWholeByte() {
         Streams.Bits bits = bits().lowNumber(2, 3).fixed(200).fixed(201).fixed(202).fixed(256).lowNumber(1, 3);
         Check.same("the head ends with its byte", bits.length() % 8, 0);
-        gives("nothing is passed over", bits.lowNumber(1, 16).lowNumber(65534, 16).lowNumber(9, 8), Rows.of(200, 201, 202, 9));
+        gives("nothing is passed over", bits.lowNumber(1, 16).lowNumber(65534, 16).lowNumber(9, 8),
+                Rows.of(200, 201, 202, 9));
     }
 
     /** What is passed over may be anything: one bit, or five. */
     private static void storedLeftOver() {
         for (int left = 0; left < 32; left++) {
-            gives("five bits are passed over", bits().lowNumber(1, 3).lowNumber(left, 5).lowNumber(1, 16).lowNumber(65534, 16)
-                    .lowNumber(9, 8), Rows.of(9));
+            gives("five bits are passed over", bits().lowNumber(1, 3).lowNumber(left, 5).lowNumber(1, 16)
+                    .lowNumber(65534, 16).lowNumber(9, 8), Rows.of(9));
         }
         for (int left = 0; left < 2; left++) {
             Streams.Bits bits = bits().lowNumber(2, 3).fixed(200).fixed(201).fixed(256).lowNumber(1, 3).lowNumber(left, 1);
             Check.same("one bit was left", bits.length() % 8, 0);
-            gives("one bit is passed over", bits.lowNumber(1, 16).lowNumber(65534, 16).lowNumber(9, 8), Rows.of(200, 201, 9));
+            gives("one bit is passed over", bits.lowNumber(1, 16).lowNumber(65534, 16).lowNumber(9, 8),
+                    Rows.of(200, 201, 9));
         }
     }
 
@@ -266,7 +271,8 @@ final class BoundaryFlateTest {
     private static void fixedLiterals() {
         gives("literals at the edges", bits().lowNumber(3, 3).code("00110000").code("10111111").code("110010000")
                 .code("111111111").code("0000000"), Rows.of(0, 143, 144, 255));
-        stops("nine bits that end behind eight", bits().lowNumber(3, 3).code("10111111").lowNumber(7, 5), Rows.of(143), ENDS);
+        stops("nine bits that end behind eight", bits().lowNumber(3, 3).code("10111111").lowNumber(7, 5), Rows.of(143),
+                ENDS);
     }
 
     /** "7 for 256 .. 279, 8 for 280 .. 287": 279 is 99 .. 114, and 280 is 115 .. 130. */
@@ -276,7 +282,8 @@ final class BoundaryFlateTest {
                 Filtered.many(115, 65));
         gives("280", bits().lowNumber(3, 3).fixed(65).code("11000000").lowNumber(0, 4).code("00000").code("0000000"),
                 Filtered.many(116, 65));
-        gives("285", bits().lowNumber(3, 3).fixed(65).code("11000101").code("00000").code("0000000"), Filtered.many(259, 65));
+        gives("285", bits().lowNumber(3, 3).fixed(65).code("11000101").code("00000").code("0000000"),
+                Filtered.many(259, 65));
         stops("286", bits().lowNumber(3, 3).fixed(65).code("11000110"), Rows.of(65), SYMBOL);
         stops("287", bits().lowNumber(3, 3).fixed(65).code("11000111"), Rows.of(65), SYMBOL);
     }
@@ -305,7 +312,8 @@ final class BoundaryFlateTest {
         // 65: 0, 256: 10, 285: 11; distances 0: 0, 29: 1
         Streams.Bits bits = Blocks.withLengths(286, 30, 65, 1, 256, 2, 285, 2, 286, 1, 315, 1);
         gives("286 and 30", bits.code("0").code("11").code("0").code("10"), Filtered.many(259, 65));
-        bits = Blocks.withLengths(286, 30, 65, 1, 256, 2, 285, 2, 286, 1, 315, 1).code("0").code("11").code("1").lowNumber(0, 13);
+        bits = Blocks.withLengths(286, 30, 65, 1, 256, 2, 285, 2, 286, 1, 315, 1).code("0").code("11").code("1")
+                .lowNumber(0, 13);
         stops("286 and 30, the last distance", bits, Rows.of(65), StreamFilters.FAR);
         gives("257 and 1", Blocks.withLengths(257, 1, 65, 1, 256, 1).code("0").code("1"), Rows.of(65));
     }
@@ -332,7 +340,8 @@ final class BoundaryFlateTest {
             bits.code("0").lowNumber(3, 2);
         }
         bits.code("0").lowNumber(0, 2).code("10");
-        gives("5 of the order", bits.code("01000000").code("00000000").code("11111110").code("11111111"), Rows.of(65, 1, 255));
+        gives("5 of the order", bits.code("01000000").code("00000000").code("11111110").code("11111111"),
+                Rows.of(65, 1, 255));
         // the last one is 15: 0 is 0, 1 is 10, 15 is 11
         bits = Blocks.orderLengths(Blocks.codesHead(257, 2, 19), 19, 0, 1, 1, 2, 15, 2).code("0".repeat(256)).code("10");
         gives("19 of the order", bits.code("0").code("0").code("0"), NOTHING);
@@ -457,7 +466,8 @@ final class BoundaryFlateTest {
     private static void fromLiteralsToDistances() {
         // codes for lengths: 0: 0, 2: 10, 16: 110, 18: 111; four literals and four distances of length 2
         Streams.Bits bits = Blocks.orderLengths(Blocks.codesHead(258, 4, 19), 19, 0, 1, 2, 2, 16, 3, 18, 3);
-        bits.code("111").lowNumber(127, 7).code("111").lowNumber(105, 7).code("10").code("10").code("10").code("110").lowNumber(2, 2);
+        bits.code("111").lowNumber(127, 7).code("111").lowNumber(105, 7).code("10").code("10").code("10").code("110")
+                .lowNumber(2, 2);
         // 254: 00, 255: 01, 256: 10, 257: 11; distance 3 is 11
         bits.code("00").code("01").code("00").code("01").code("11").code("11").code("10");
         gives("16 over both", bits, Rows.of(254, 255, 254, 255, 254, 255, 254));
@@ -517,9 +527,11 @@ final class BoundaryFlateTest {
 
         // 257: 0, 65: 10, 256: 11
         int[] literals = {257, 1, 256, 2, 65, 2};
-        bits = Blocks.withLengths(258, 30, joined(literals, upToFifteen(258, 2, 287))).code("10").code("0").code("0").code("11");
+        bits = Blocks.withLengths(258, 30, joined(literals, upToFifteen(258, 2, 287))).code("10").code("0").code("0")
+                .code("11");
         gives("distances: complete", bits, Filtered.many(4, 65));
-        bits = Blocks.withLengths(258, 30, joined(literals, upToFifteen(258, 2, 287))).code("10").code("0").code("1".repeat(15));
+        bits = Blocks.withLengths(258, 30, joined(literals, upToFifteen(258, 2, 287))).code("10").code("0")
+                .code("1".repeat(15));
         stops("distances: complete, the last one", bits.lowNumber(0, 13), Rows.of(65), StreamFilters.FAR);
         stops("distances: too few by the least", Blocks.withLengths(258, 30, joined(literals, upToFifteen(258, 1, 287))),
                 NOTHING, CODES);
@@ -536,7 +548,8 @@ final class BoundaryFlateTest {
     /** "or there is just one, of length 1". */
     private static void justOne() {
         gives("literals: just one", Blocks.withLengths(257, 1, 256, 1).code("0"), NOTHING);
-        Streams.Bits bits = Blocks.withLengths(258, 30, 65, 1, 256, 2, 257, 2, 259, 1).code("0").code("0").code("11").code("0");
+        Streams.Bits bits = Blocks.withLengths(258, 30, 65, 1, 256, 2, 257, 2, 259, 1).code("0").code("0").code("11")
+                .code("0");
         gives("distances: just one", bits.code("10"), Filtered.many(5, 65));
     }
 
@@ -562,8 +575,8 @@ final class BoundaryFlateTest {
         Streams.Bits bits = Blocks.withLengths(257, 30, 0, 1, 1, 1, 2, 1);
         byte[] row = Blocks.withHeader(bits);
         for (int less = 1; less <= 15; less++) {
-            Filtered.stops("literals are bad, and distances end", Filtered.FLATE, Arrays.copyOf(row, row.length - less), NOTHING,
-                    ENDS, row.length - less);
+            Filtered.stops("literals are bad, and distances end", Filtered.FLATE, Arrays.copyOf(row, row.length - less),
+                    NOTHING, ENDS, row.length - less);
         }
         stops("literals are bad, and all are read", bits, NOTHING, CODES);
     }
@@ -598,8 +611,8 @@ final class BoundaryFlateTest {
     private static void codeThatEnds() {
         // 3 + 8 + 8 bits and 5 of 9; 3 + 8 + 8 and 5 bits of a distance's thirteen
         stops("a literal", bits().lowNumber(3, 3).fixed(65).fixed(66).code("11001"), Rows.of(65, 66), ENDS);
-        stops("a length's further bits", bits().lowNumber(3, 3).fixed(65).fixed(66).fixed(284).lowNumber(0, 5), Rows.of(65, 66),
-                ENDS);
+        stops("a length's further bits", bits().lowNumber(3, 3).fixed(65).fixed(66).fixed(284).lowNumber(0, 5),
+                Rows.of(65, 66), ENDS);
         stops("a distance's further bits", bits().lowNumber(3, 3).fixed(65).fixed(66).fixed(67).fixed(285).fixedDistance(29),
                 Rows.of(65, 66, 67), ENDS);
     }
@@ -634,8 +647,8 @@ final class BoundaryFlateTest {
 
     /** Behind it stands a literal of nine ones, so that a bit too many or too few would be seen. */
     private static void copied(int symbol, int more, int further, int due) {
-        Streams.Bits bits = bits().lowNumber(3, 3).fixed(65).fixed(symbol).lowNumber(more, further).fixedDistance(0).fixed(255)
-                .fixed(256);
+        Streams.Bits bits = bits().lowNumber(3, 3).fixed(65).fixed(symbol).lowNumber(more, further).fixedDistance(0)
+                .fixed(255).fixed(256);
         gives("the length " + due + " of " + symbol, bits, Rows.joined(Filtered.many(due + 1, 65), Rows.of(255)));
     }
 
@@ -668,10 +681,11 @@ final class BoundaryFlateTest {
     /** With nothing there every distance is FAR; its further bits are read before. */
     private static void farBehindNothing() {
         stops("1, and nothing is there", bits().lowNumber(3, 3).fixed(257).fixedDistance(0), NOTHING, StreamFilters.FAR);
-        stops("32768, and nothing is there", bits().lowNumber(3, 3).fixed(285).fixedDistance(29).lowNumber(8191, 13), NOTHING,
-                StreamFilters.FAR);
+        stops("32768, and nothing is there", bits().lowNumber(3, 3).fixed(285).fixedDistance(29).lowNumber(8191, 13),
+                NOTHING, StreamFilters.FAR);
         byte[] row = Blocks.withHeader(bits().lowNumber(3, 3).fixed(285).fixedDistance(29).lowNumber(8191, 13));
-        Filtered.stops("not all further bits", Filtered.FLATE, Arrays.copyOf(row, row.length - 1), NOTHING, ENDS, row.length - 1);
+        Filtered.stops("not all further bits", Filtered.FLATE, Arrays.copyOf(row, row.length - 1), NOTHING, ENDS,
+                row.length - 1);
         // what a filter before has given is not this one's output
         Streams.Bits bits = bits().lowNumber(3, 3).fixed(257).fixedDistance(0);
         StreamFilters x = Rows.loaded(Streams.lengthsOf(Blocks.withHeader(bits)), Filtered.LENGTHS, Filtered.FLATE);

@@ -166,8 +166,8 @@ final class BoundaryLzwTest {
     private static void upToTheLastNumber() {
         for (int early = 0; early <= 1; early++) {
             for (int more = 0; more < 4; more++) {
-                Streams.Bits bits = manyOfOne(3838 + more, early).highNumber(4095, 12).highNumber(66, 12).highNumber(4095, 12)
-                        .highNumber(4094, 12).highNumber(258, 12).highNumber(257, 12);
+                Streams.Bits bits = manyOfOne(3838 + more, early).highNumber(4095, 12).highNumber(66, 12)
+                        .highNumber(4095, 12).highNumber(4094, 12).highNumber(258, 12).highNumber(257, 12);
                 int many = 3838 + more + 2;
                 byte[] due = Rows.joined(Filtered.many(many, 65), Rows.of(66), Filtered.many(6, 65));
                 StreamFilters x = lzw(bits.bytes(), early);

@@ -1,6 +1,9 @@
 import java.util.Arrays;
 
-/** The boundary cases that the sentences about PREDICTORS name; each has a method of its own, and the sentence stands above it. */
+/**
+ * The boundary cases that the sentences about PREDICTORS name; each has a method of its own, and the sentence
+ * stands above it.
+ */
 final class BoundaryPredictorTest {
     private static final int TAG = StreamFilters.TAG;
 
@@ -177,7 +180,8 @@ final class BoundaryPredictorTest {
             gives("one of 8 bits", over(Rows.of(0x80 | ones & 0x7F), 2, 1, 1, 1), 0x80 | ones & 0x7F);
             gives("two of 8 bits", over(Rows.of(0xC0 | ones & 0x3F), 2, 1, 1, 2), 0x80 | ones & 0x3F);
             gives("6 of 8 bits", over(Rows.of(0b01010100 | ones & 3), 2, 1, 2, 3), 0b01101100 | ones & 3);
-            gives("4 of 8 bits", over(Rows.of(0x10 | ones & 15, 0x20 | ones & 15), 2, 1, 4, 1), 0x10 | ones & 15, 0x20 | ones & 15);
+            gives("4 of 8 bits", over(Rows.of(0x10 | ones & 15, 0x20 | ones & 15), 2, 1, 4, 1), 0x10 | ones & 15,
+                    0x20 | ones & 15);
             gives("12 of 16 bits", over(Rows.of(0x11, 0x10 | ones & 15, 0x11, 0x10 | ones & 15), 2, 1, 4, 3),
                     0x12, 0x30 | ones & 15, 0x12, 0x30 | ones & 15);
             gives("9 of 16 bits", over(Rows.of(255, 0x80 | ones & 0x7F), 2, 1, 1, 9), 0xAA, 0x80 | ones & 0x7F);
@@ -209,7 +213,8 @@ final class BoundaryPredictorTest {
     /** The TAG says what is added, whichever of 10 to 15 the predictor is. */
     private static void tagsOfEachPredictor() {
         for (int predictor = 10; predictor <= 15; predictor++) {
-            gives("all five, predictor " + predictor, over(Rows.of(0, 5, 5, 1, 5, 5, 2, 5, 5, 3, 5, 5, 4, 5, 5), predictor, 1, 8, 2),
+            gives("all five, predictor " + predictor,
+                    over(Rows.of(0, 5, 5, 1, 5, 5, 2, 5, 5, 3, 5, 5, 4, 5, 5), predictor, 1, 8, 2),
                     5, 5, 5, 10, 10, 15, 10, 17, 15, 22);
         }
     }

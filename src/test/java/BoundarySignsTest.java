@@ -99,7 +99,8 @@ final class BoundarySignsTest {
         gives("0x01020304", TEXT, digitsOf(0x01020304) + "~>", 1, 2, 3, 4);
         for (long number : new long[] {most + 1, most + 2, most + 256, 85L * 85 * 85 * 85 * 85 - 1}) {
             stops("too high: " + number, TEXT, digitsOf(number) + "~>", RANGE, 5);
-            stops("too high, behind others: " + number, TEXT, "z!!!!!" + digitsOf(number), RANGE, 11, 0, 0, 0, 0, 0, 0, 0, 0);
+            stops("too high, behind others: " + number, TEXT, "z!!!!!" + digitsOf(number), RANGE, 11, 0, 0, 0, 0, 0, 0, 0,
+                    0);
         }
         stops("too high, but the fifth is missing", TEXT, "uuuu", ENDS, 4);
         stops("too high, but the fifth is no digit", TEXT, "uuuuv", SIGN, 5);

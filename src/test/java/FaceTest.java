@@ -14,7 +14,8 @@ final class FaceTest {
 
     public static void main(String[] args) throws IllegalAccessException {
         Check.isTrue("public and final",
-                Modifier.isPublic(StreamFilters.class.getModifiers()) && Modifier.isFinal(StreamFilters.class.getModifiers()));
+                Modifier.isPublic(StreamFilters.class.getModifiers())
+                        && Modifier.isFinal(StreamFilters.class.getModifiers()));
         constants();
         constructors();
         methods();

@@ -201,11 +201,13 @@ final class FlateTest {
     private static void fixedSymbols() {
         for (int symbol = 286; symbol < 288; symbol++) {
             Streams.Bits bits = new Streams.Bits().lowNumber(3, 3).fixed(65).fixed(symbol);
-            faulty("literal " + symbol, Rows.joined(Blocks.withHeader(bits), new byte[9]), Rows.of(65), StreamFilters.SYMBOL, 5);
+            faulty("literal " + symbol, Rows.joined(Blocks.withHeader(bits), new byte[9]), Rows.of(65),
+                    StreamFilters.SYMBOL, 5);
         }
         for (int symbol = 30; symbol < 32; symbol++) {
             Streams.Bits bits = new Streams.Bits().lowNumber(3, 3).fixed(65).fixed(257).fixedDistance(symbol);
-            faulty("distance " + symbol, Rows.joined(Blocks.withHeader(bits), new byte[9]), Rows.of(65), StreamFilters.SYMBOL, 5);
+            faulty("distance " + symbol, Rows.joined(Blocks.withHeader(bits), new byte[9]), Rows.of(65),
+                    StreamFilters.SYMBOL, 5);
         }
         byte[] all = new byte[256];
         Streams.Bits bits = new Streams.Bits().lowNumber(3, 3);
@@ -239,11 +241,16 @@ final class FlateTest {
     }
 
     private static void headOfCodes() {
-        faulty("286 literals and 30 distances", Blocks.withHeader(Blocks.codesHead(286, 30, 4)), Rows.of(), StreamFilters.ENDS, 5);
-        faulty("287 literals", Rows.joined(Blocks.withHeader(Blocks.codesHead(287, 1, 4)), new byte[5]), Rows.of(), StreamFilters.CODES, 5);
-        faulty("288 literals", Rows.joined(Blocks.withHeader(Blocks.codesHead(288, 1, 4)), new byte[5]), Rows.of(), StreamFilters.CODES, 5);
-        faulty("31 distances", Rows.joined(Blocks.withHeader(Blocks.codesHead(257, 31, 4)), new byte[5]), Rows.of(), StreamFilters.CODES, 5);
-        faulty("32 distances", Rows.joined(Blocks.withHeader(Blocks.codesHead(257, 32, 4)), new byte[5]), Rows.of(), StreamFilters.CODES, 5);
+        faulty("286 literals and 30 distances", Blocks.withHeader(Blocks.codesHead(286, 30, 4)), Rows.of(),
+                StreamFilters.ENDS, 5);
+        faulty("287 literals", Rows.joined(Blocks.withHeader(Blocks.codesHead(287, 1, 4)), new byte[5]), Rows.of(),
+                StreamFilters.CODES, 5);
+        faulty("288 literals", Rows.joined(Blocks.withHeader(Blocks.codesHead(288, 1, 4)), new byte[5]), Rows.of(),
+                StreamFilters.CODES, 5);
+        faulty("31 distances", Rows.joined(Blocks.withHeader(Blocks.codesHead(257, 31, 4)), new byte[5]), Rows.of(),
+                StreamFilters.CODES, 5);
+        faulty("32 distances", Rows.joined(Blocks.withHeader(Blocks.codesHead(257, 32, 4)), new byte[5]), Rows.of(),
+                StreamFilters.CODES, 5);
         byte[] cut = Arrays.copyOf(Blocks.withHeader(Blocks.codesHead(288, 32, 4)), 4);
         faulty("288 literals, and it ends", cut, Rows.of(), StreamFilters.ENDS, 4);
     }
@@ -259,7 +266,8 @@ final class FlateTest {
         Streams.Bits bits = Blocks.orderLengths(Blocks.codesHead(257, 1, 19), 19, 18, 1).code("1");
         faulty("one code of lengths, the other bit", Blocks.withHeader(bits), Rows.of(), StreamFilters.SYMBOL, 12);
         // 138 and 120 times 0 are 258 lengths: then 256 has none
-        bits = Blocks.orderLengths(Blocks.codesHead(257, 1, 19), 19, 18, 1).code("0").lowNumber(127, 7).code("0").lowNumber(109, 7);
+        bits = Blocks.orderLengths(Blocks.codesHead(257, 1, 19), 19, 18, 1).code("0").lowNumber(127, 7).code("0")
+                .lowNumber(109, 7);
         faulty("one code of lengths: no literals", Blocks.withHeader(bits), Rows.of(), StreamFilters.CODES,
                 2 + (bits.length() + 7) / 8);
         bits = Blocks.orderLengths(Blocks.codesHead(257, 1, 5), 4, 18, 1);
@@ -273,7 +281,8 @@ final class FlateTest {
 
     private static void repeats() {
         Streams.Bits bits = Blocks.withRepeats(257, 1).code("110").lowNumber(0, 2);
-        faulty("16, and none before", Rows.joined(Blocks.withHeader(bits), new byte[5]), Rows.of(), StreamFilters.CODES, Blocks.placeOf(bits));
+        faulty("16, and none before", Rows.joined(Blocks.withHeader(bits), new byte[5]), Rows.of(), StreamFilters.CODES,
+                Blocks.placeOf(bits));
         // 138 + 110 + 8 are 256, then 1 for 256, and 1 for the distance
         bits = Blocks.withRepeats(257, 1).code("1111").lowNumber(127, 7).code("1111").lowNumber(99, 7)
                 .code("1110").lowNumber(5, 3).code("10").code("10").code("0");
@@ -281,24 +290,28 @@ final class FlateTest {
         // one too many: 256 times 0, one 1, and then 16 for the one that is left
         bits = Blocks.withRepeats(257, 1).code("1111").lowNumber(127, 7).code("1111").lowNumber(107, 7)
                 .code("10").code("110").lowNumber(0, 2);
-        faulty("16, more than there are", Rows.joined(Blocks.withHeader(bits), new byte[5]), Rows.of(), StreamFilters.CODES, Blocks.placeOf(bits));
+        faulty("16, more than there are", Rows.joined(Blocks.withHeader(bits), new byte[5]), Rows.of(),
+                StreamFilters.CODES, Blocks.placeOf(bits));
         bits = Blocks.withRepeats(257, 2).code("1111").lowNumber(127, 7).code("1111").lowNumber(107, 7)
                 .code("10").code("1110").lowNumber(0, 3);
-        faulty("17, more than there are", Rows.joined(Blocks.withHeader(bits), new byte[5]), Rows.of(), StreamFilters.CODES, Blocks.placeOf(bits));
+        faulty("17, more than there are", Rows.joined(Blocks.withHeader(bits), new byte[5]), Rows.of(),
+                StreamFilters.CODES, Blocks.placeOf(bits));
         bits = Blocks.withRepeats(257, 10).code("1111").lowNumber(127, 7).code("1111").lowNumber(107, 7)
                 .code("10").code("1111").lowNumber(0, 7);
-        faulty("18, more than there are", Rows.joined(Blocks.withHeader(bits), new byte[5]), Rows.of(), StreamFilters.CODES, Blocks.placeOf(bits));
+        faulty("18, more than there are", Rows.joined(Blocks.withHeader(bits), new byte[5]), Rows.of(),
+                StreamFilters.CODES, Blocks.placeOf(bits));
         bits = Blocks.withRepeats(257, 2).code("1111").lowNumber(127, 7).code("1111").lowNumber(107, 7)
                 .code("10").code("10").code("10").code("0");
         good("two distances of length 1", Streams.flateAround(bits, Rows.of()), Rows.of());
         bits = Blocks.withRepeats(257, 3).code("1111").lowNumber(127, 7).code("1111").lowNumber(107, 7)
                 .code("10").code("110").lowNumber(0, 2);
-        faulty("16 from literals to distances: three of length 1", Rows.joined(Blocks.withHeader(bits), new byte[5]), Rows.of(),
-                StreamFilters.CODES, Blocks.placeOf(bits));
+        faulty("16 from literals to distances: three of length 1", Rows.joined(Blocks.withHeader(bits), new byte[5]),
+                Rows.of(), StreamFilters.CODES, Blocks.placeOf(bits));
     }
 
     private static void badCodes(String what, Streams.Bits bits) {
-        faulty(what, Rows.joined(Blocks.withHeader(bits), new byte[4]), Rows.of(), StreamFilters.CODES, Blocks.placeOf(bits));
+        faulty(what, Rows.joined(Blocks.withHeader(bits), new byte[4]), Rows.of(), StreamFilters.CODES,
+                Blocks.placeOf(bits));
     }
 
     private static void codes() {
@@ -310,9 +323,11 @@ final class FlateTest {
         badCodes("distances: not complete", Blocks.withLengths(257, 3, 65, 1, 256, 1, 257, 2, 258, 2, 259, 2));
         badCodes("distances: too many", Blocks.withLengths(257, 3, 65, 1, 256, 1, 257, 1, 258, 1, 259, 1));
 
-        good("literals: one, of length 1", Streams.flateAround(Blocks.withLengths(257, 1, 256, 1).code("0"), Rows.of()), Rows.of());
+        good("literals: one, of length 1", Streams.flateAround(Blocks.withLengths(257, 1, 256, 1).code("0"), Rows.of()),
+                Rows.of());
         Streams.Bits bits = Blocks.withLengths(257, 1, 256, 1).code("1");
-        faulty("literals: one, the other bit", Blocks.withHeader(bits), Rows.of(), StreamFilters.SYMBOL, Blocks.placeOf(bits));
+        faulty("literals: one, the other bit", Blocks.withHeader(bits), Rows.of(), StreamFilters.SYMBOL,
+                Blocks.placeOf(bits));
 
         // 65: 0, 256: 10, 257: 11; distances: one, of length 1
         bits = Blocks.withLengths(258, 1, 65, 1, 256, 2, 257, 2, 258, 1).code("0").code("11").code("0").code("10");

@@ -153,7 +153,8 @@ final class LzwTest {
         byte[] due = Rows.ofText("ABABABAC");
         int[] given = {0, 0, 1, 2, 4, 7, 8};
         for (int many = 0; many < row.length; many++) {
-            faulty("it ends after " + many, Arrays.copyOf(row, many), Arrays.copyOf(due, given[many]), StreamFilters.ENDS, many);
+            faulty("it ends after " + many, Arrays.copyOf(row, many), Arrays.copyOf(due, given[many]), StreamFilters.ENDS,
+                    many);
         }
     }
 

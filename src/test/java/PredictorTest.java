@@ -35,7 +35,8 @@ final class PredictorTest {
         undone("8 bits, a shorter row", predicted(Rows.of(1, 1, 1, 1, 1), 2, 1, 8, 3), Rows.of(1, 2, 3, 1, 2));
         undone("two colours", predicted(Rows.of(1, 10, 1, 10, 1, 10), 2, 2, 8, 3), Rows.of(1, 10, 2, 20, 3, 30));
         undone("16 bits", predicted(Rows.of(0, 255, 0, 1, 255, 0), 2, 1, 16, 3), Rows.of(0, 255, 1, 0, 0, 0));
-        undone("16 bits, one that is not whole", predicted(Rows.of(0, 255, 0, 1, 255), 2, 1, 16, 3), Rows.of(0, 255, 1, 0, 255));
+        undone("16 bits, one that is not whole", predicted(Rows.of(0, 255, 0, 1, 255), 2, 1, 16, 3),
+                Rows.of(0, 255, 1, 0, 255));
         // 1, 1, 1 and a bit that fills up five times
         undone("1 bit", predicted(Rows.of(0b11111111, 0b11111111), 2, 1, 1, 3), Rows.of(0b10111111, 0b10111111));
         undone("2 bits", predicted(Rows.of(0b01011111), 2, 1, 2, 3), Rows.of(0b01100111));

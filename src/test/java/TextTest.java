@@ -49,7 +49,8 @@ final class TextTest {
             Rows.hasNoFault("digits, " + size, y);
         }
         good("a known text", TEXT, "87cURD]~>", 'H', 'e', 'l', 'l', 'o');
-        good("capital digits", DIGITS, "0123456789abcdefABCDEF>", 0x01, 0x23, 0x45, 0x67, 0x89, 0xAB, 0xCD, 0xEF, 0xAB, 0xCD, 0xEF);
+        good("capital digits", DIGITS, "0123456789abcdefABCDEF>", 0x01, 0x23, 0x45, 0x67, 0x89, 0xAB, 0xCD, 0xEF, 0xAB,
+                0xCD, 0xEF);
     }
 
     private static void blanks() {
