@@ -254,6 +254,9 @@ final class BoundaryPredictorTest {
         gives("4, the first byte", over(Rows.of(4, 9), 10, 1, 8, 2), 9);
         gives("4, the first row", over(Rows.of(4, 9, 1, 255), 10, 1, 8, 3), 9, 10, 9);
         gives("4, the first column", over(Rows.of(0, 9, 9, 4, 1, 0), 10, 1, 8, 2), 9, 9, 10, 10);
+        // next to a 1 anything but 0 for what is not there would be seen
+        gives("4, the first row, a 1", over(Rows.of(4, 1, 0, 0), 10, 1, 8, 3), 1, 1, 1);
+        gives("4, the first column, a 1", over(Rows.of(0, 1, 1, 4, 0, 0), 10, 1, 8, 2), 1, 1, 1, 1);
         nearest("a", 100, 50, 49, 100);
         nearest("b", 50, 100, 49, 100);
         nearest("c", 40, 60, 50, 50);
