@@ -512,14 +512,15 @@ public final class StreamFilters {
         private final int[] lengths = new int[LITERALS + DISTANCES];
 
         Flate() {
+            int[] fixed = new int[LITERALS + DISTANCES];
             for (int i = 0; i < LITERALS; i++) {
-                lengths[i] = i < 144 ? 8 : i < 256 ? 9 : i < 280 ? 7 : 8;
+                fixed[i] = i < 144 ? 8 : i < 256 ? 9 : i < 280 ? 7 : 8;
             }
             for (int i = 0; i < DISTANCES; i++) {
-                lengths[LITERALS + i] = 5;
+                fixed[LITERALS + i] = 5;
             }
-            fixedLiterals.build(lengths, 0, LITERALS);
-            fixedDistances.build(lengths, LITERALS, DISTANCES);
+            fixedLiterals.build(fixed, 0, LITERALS);
+            fixedDistances.build(fixed, LITERALS, DISTANCES);
         }
 
         void unpack(Pass pass, int early) {
